@@ -219,6 +219,29 @@ public final class PromisesTest {
         for (int i = 0; i < 4; i++) {
             c.due("6: slot 0, slot 1, then the watchers in their order", y.datagram(4 + i, 4), tokens[i]);
         }
+        ObservedBlocks z = new ObservedBlocks();
+        z.change(0, 17, 1);
+        z.get(0, 0, 0, false);
+        Checks.ticks(z, 30);
+        z.deliver(0);
+        while (z.waiting() > 1) {
+            z.lose(0);
+        }
+        z.deliver(0);
+        c.due("6: the next request", z.waiting(), 1);
+        int[] again = {4, 12, 28};
+        for (int t = 1; t < 60; t++) {
+            z.tick();
+            int count = 1;
+            for (int sentAgain : again) {
+                count += t >= sentAgain ? 1 : 0;
+            }
+            c.due("6: a new request begins with no repeats and a span of 4", z.waiting(), count);
+            c.due("6: asking", z.slot(0, 0), 1);
+        }
+        z.tick();
+        c.due("6: failed", z.slot(0, 0), 3);
+
         Checks.ticks(y, 55);
         c.due("6: watchers at 59", y.server(1), 2);
         Checks.ticks(y, 1);

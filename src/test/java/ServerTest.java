@@ -7,6 +7,7 @@ public final class ServerTest {
         getsBehindTheEnd();
         puts();
         putsOutOfStep();
+        longBlocks();
         partsTooLong();
         watchersBegin();
         watchersAgain();
@@ -127,6 +128,22 @@ public final class ServerTest {
         c.due("each resource has its part", x.server(3), 6);
         x.change(0, 3, 3);
         c.due("a change leaves the part", x.server(3), 6);
+    }
+
+    private static void longBlocks() {
+        ObservedBlocks x = new ObservedBlocks();
+        int[] values = {240, 241, 248, 256, 257, 1016, 1017};
+        for (int i = 0; i < values.length; i++) {
+            int high = values[i] / 256;
+            int low = values[i] % 256;
+            if (high == 0) {
+                Checks.bringToServer(x, 65, 3, 0, 5 + i, 9, 177, 97, 209, 3, low);
+                c.dueDatagram("BLOCK1 as it was", x, i, 0, 97, 136, 0, 5 + i, 9, 209, 14, low);
+            } else {
+                Checks.bringToServer(x, 65, 3, 0, 5 + i, 9, 177, 97, 210, 3, high, low);
+                c.dueDatagram("BLOCK1 as it was", x, i, 0, 97, 136, 0, 5 + i, 9, 210, 14, high, low);
+            }
+        }
     }
 
     private static void partsTooLong() {
@@ -412,6 +429,21 @@ public final class ServerTest {
         c.due("the third is", x.server(0), 6);
         bringPut(x, 6, 0, 1);
         c.due("the second is not any more", x.server(0), 7);
+
+        ObservedBlocks y = new ObservedBlocks();
+        int[] blocks = {9, 25, 8, 1, 136, 32, 48};
+        for (int i = 0; i < blocks.length; i++) {
+            bringPut(y, 5 + i, blocks[i]);
+        }
+        while (y.waiting() > 0) {
+            y.lose(0);
+        }
+        for (int i = 3; i < blocks.length; i++) {
+            bringPut(y, 5 + i, 0);
+            int code = i == 3 ? 68 : 136;
+            c.dueDatagram("each with its own answer", y, i - 3, 0, 97, code, 0, 5 + i, 9, 209, 14, blocks[i]);
+        }
+        c.due("none was handled again", y.server(0), blocks.length);
     }
 
     private static void memoryAfterTheSameId() {
