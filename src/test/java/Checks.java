@@ -6,11 +6,17 @@ final class Checks {
     static final int TO_SERVER = 1;
 
     private int wrong = 0;
+    private String sentence = "";
+
+    /** The sentence of the document that the calls from here on look at; each answer that is not as due tells it. */
+    void says(String words) {
+        sentence = "'" + words + "': ";
+    }
 
     void due(String what, long got, long want) {
         if (got != want) {
             wrong++;
-            System.out.println(what + " answered " + got + ", due is " + want);
+            System.out.println(sentence + what + " answered " + got + ", due is " + want);
         }
     }
 
@@ -21,7 +27,7 @@ final class Checks {
     void dueRow(String what, int[] got, int... want) {
         if (!Arrays.equals(got, want)) {
             wrong++;
-            System.out.println(what + " is " + Arrays.toString(got) + ", due is " + Arrays.toString(want));
+            System.out.println(sentence + what + " is " + Arrays.toString(got) + ", due is " + Arrays.toString(want));
         }
     }
 
@@ -133,6 +139,47 @@ final class Checks {
         x.deliver(x.waiting() - 1);
         write(x, x.waiting() - 1, row);
         x.deliver(x.waiting() - 1);
+    }
+
+    /** All that can be seen of an object. */
+    static int[] picture(ObservedBlocks x) {
+        int[] all = new int[2000];
+        int n = 0;
+        for (int what = 0; what < 4; what++) {
+            all[n++] = x.server(what);
+        }
+        for (int s = 0; s < 2; s++) {
+            for (int what = 0; what < 7; what++) {
+                all[n++] = x.slot(s, what);
+            }
+            for (int i = 0; i <= 80; i++) {
+                all[n++] = x.body(s, i);
+            }
+        }
+        for (int r = 0; r < 4; r++) {
+            for (int i = -1; i <= 64; i++) {
+                all[n++] = x.content(r, i);
+            }
+        }
+        for (int k = 0; k < x.waiting(); k++) {
+            for (int i = -2; i <= 46; i++) {
+                all[n++] = x.datagram(k, i);
+            }
+        }
+        return Arrays.copyOf(all, n);
+    }
+
+    /** The line gets 16 datagrams, the first one again and again; it must have one. */
+    static void fillLine(ObservedBlocks x) {
+        for (int n = x.waiting(); n < 16; n++) {
+            x.repeat(0);
+        }
+    }
+
+    static void emptyLine(ObservedBlocks x) {
+        for (int n = x.waiting(); n > 0; n--) {
+            x.lose(0);
+        }
     }
 
     static void deliverAll(ObservedBlocks x) {
