@@ -131,6 +131,25 @@ final class Checks {
         x.deliver(x.waiting() - 1);
     }
 
+    /** A put under path a with token 9 comes to the server. */
+    static void bringPut(ObservedBlocks x, int id, int block, int... bytes) {
+        int[] head = block == 0 ? row(65, 3, 0, id, 9, 177, 97, 208, 3) : row(65, 3, 0, id, 9, 177, 97, 209, 3, block);
+        bringToServer(x, bytes.length == 0 ? head : join(head, payload(bytes)));
+    }
+
+    /** The code of what was sent last. */
+    static int lastCode(ObservedBlocks x) {
+        return x.datagram(x.waiting() - 1, 1);
+    }
+
+    /** Slot 0 (token 2) watches path a with SZX 0; nothing is under way. */
+    static ObservedBlocks watched() {
+        ObservedBlocks x = new ObservedBlocks();
+        x.get(0, 0, 0, true);
+        deliverAll(x);
+        return x;
+    }
+
     /** A datagram of 8 bytes or of 10 .. 41 comes to the client; slot 1 must be free and is; resource 2 is used up for it. */
     static void bringToClient(ObservedBlocks x, int id, int... row) {
         x.change(2, row.length == 8 ? 0 : row.length - 9, 0);

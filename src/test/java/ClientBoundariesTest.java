@@ -134,7 +134,8 @@ public final class ClientBoundariesTest {
     }
 
     private static void blocksOfAPut() {
-        c.says("BLOCK1 with NUM, MORE (1 when the body has bytes behind this block) and SZX, and the bytes of the body from NUM * SIZE on, at most SIZE");
+        c.says("BLOCK1 with NUM, MORE (1 when the body has bytes behind this block) and SZX, "
+            + "and the bytes of the body from NUM * SIZE on, at most SIZE");
         for (int szx = 0; szx < 2; szx++) {
             for (int length = 0; length <= 80; length++) {
                 ObservedBlocks x = new ObservedBlocks();
@@ -623,7 +624,8 @@ public final class ClientBoundariesTest {
         c.says("All others are ignored");
         int[][] rows = {{65, 68, 7, 9, 2, 97, 8, 209, 4, 1, 255, 6}, {65, 70, 7, 9, 2, 97, 8, 209, 4, 1, 255, 6},
             {65, 1, 7, 9, 2, 96, 81, 97, 193, 1}, {81, 69, 7, 9, 2, 97, 8, 209, 4, 1, 255, 6}, {113, 69, 7, 9, 2, 97, 8, 209, 4, 1, 255, 6},
-            {97, 69, 7, 9, 2, 97, 8, 209, 4, 1, 255, 6}, {81, 69, 7, 9, 99, 97, 8, 209, 4, 1, 255, 6}, {65, 68, 7, 9, 99, 97, 8, 209, 4, 1, 255, 6}};
+            {97, 69, 7, 9, 2, 97, 8, 209, 4, 1, 255, 6}, {81, 69, 7, 9, 99, 97, 8, 209, 4, 1, 255, 6},
+            {65, 68, 7, 9, 99, 97, 8, 209, 4, 1, 255, 6}};
         for (int[] row : rows) {
             ObservedBlocks x = watching(7);
             bring(x, row);

@@ -17,19 +17,12 @@ public final class LineBoundariesTest {
         clientIdAfter65535();
         serverIdAfter65535();
         leftAndSpan();
+        noRepeatsAtFirst();
         sameBytes();
         givenUpAfterThreeRepeats();
         pendingFromWhenItIsSent();
         call512();
         c.finish("LineBoundariesTest");
-    }
-
-    /** Slot 0 watches path a with SZX 0, and nothing is under way. */
-    private static ObservedBlocks watched() {
-        ObservedBlocks x = new ObservedBlocks();
-        x.get(0, 0, 0, true);
-        Checks.deliverAll(x);
-        return x;
     }
 
     private static int idOf(ObservedBlocks x, int k) {
@@ -96,7 +89,7 @@ public final class LineBoundariesTest {
 
     private static void tellingToAFullLine() {
         c.says("one that is sent when there are 16 is lost");
-        ObservedBlocks x = watched();
+        ObservedBlocks x = Checks.watched();
         x.get(1, 0, 0, true);
         Checks.deliverAll(x);
         x.free(1);
@@ -117,7 +110,7 @@ public final class LineBoundariesTest {
 
     private static void answerToAFullLine() {
         c.says("one that is sent when there are 16 is lost");
-        ObservedBlocks x = watched();
+        ObservedBlocks x = Checks.watched();
         x.put(1, 0, 0, 1, 9);
         Checks.fillLine(x);
         c.due("told, and the answer is lost", x.deliver(0), 16);
@@ -130,7 +123,7 @@ public final class LineBoundariesTest {
 
     private static void requestBehindAnAckToAFullLine() {
         c.says("one that is sent when there are 16 is lost");
-        ObservedBlocks x = watched();
+        ObservedBlocks x = Checks.watched();
         x.change(0, 17, 1);
         Checks.fillLine(x);
         c.due("the ACK has the place of what came", x.deliver(15), 16);
@@ -191,7 +184,7 @@ public final class LineBoundariesTest {
 
     private static void whatTakesAnId() {
         c.says("that a new message of type CON takes and that grows by 1");
-        ObservedBlocks x = watched();
+        ObservedBlocks x = Checks.watched();
         x.change(0, 1, 1);
         Checks.deliverAll(x);
         x.get(1, 0, 0, false);
@@ -231,7 +224,7 @@ public final class LineBoundariesTest {
 
     private static void serverIdAfter65535() {
         c.says("(to 0 after 65535)");
-        ObservedBlocks x = watched();
+        ObservedBlocks x = Checks.watched();
         for (int n = 1; n <= 65540; n++) {
             int seen = (n + 1) % 65536;
             x.change(0, 0, 0);
@@ -254,10 +247,11 @@ public final class LineBoundariesTest {
     }
 
     private static void leftAndSpan() {
-        c.says("PENDING with 4 ticks LEFT, of a SPAN of 4, with no REPEATS; in each tick its LEFT falls by 1 .. SPAN is doubled, and LEFT becomes SPAN");
+        c.says("PENDING with 4 ticks LEFT, of a SPAN of 4, with no REPEATS; in each tick its LEFT falls by 1 .. "
+            + "SPAN is doubled, and LEFT becomes SPAN");
         ObservedBlocks client = new ObservedBlocks();
         client.get(0, 0, 0, false);
-        ObservedBlocks server = watched();
+        ObservedBlocks server = Checks.watched();
         server.change(0, 1, 1);
         for (int t = 1; t <= 70; t++) {
             c.due("tick()", client.tick(), t);
@@ -268,9 +262,39 @@ public final class LineBoundariesTest {
         }
     }
 
+    private static void noRepeatsAtFirst() {
+        c.says("PENDING with 4 ticks LEFT, of a SPAN of 4, with no REPEATS");
+        ObservedBlocks x = Checks.watched();
+        x.get(1, 0, 0, false);
+        x.change(0, 17, 1);
+        Checks.ticks(x, 30);
+        // Both have been sent three times more; slot 1 and the watcher send a new one each.
+        x.free(1);
+        x.get(1, 0, 0, false);
+        x.change(0, 18, 1);
+        x.deliver(1);
+        x.free(0);
+        x.deliver(x.waiting() - 2);
+        Checks.emptyLine(x);
+        int[] again = {4, 12, 28};
+        for (int t = 1; t <= 59; t++) {
+            x.tick();
+            int sent = 0;
+            for (int when : again) {
+                sent += t >= when ? 2 : 0;
+            }
+            c.due("sent again at " + t, x.waiting(), sent);
+        }
+        c.due("the slot at 59", x.slot(1, 0), 1);
+        c.due("the watchers at 59", x.server(1), 1);
+        x.tick();
+        c.due("the slot at 60", x.slot(1, 0), 3);
+        c.due("the watchers at 60", x.server(1), 0);
+    }
+
     private static void sameBytes() {
         c.says("otherwise it is sent again (the same bytes)");
-        ObservedBlocks x = watched();
+        ObservedBlocks x = Checks.watched();
         x.put(1, 3, 1, 80, 9);
         x.change(0, 40, 3);
         int[] put = Checks.rowOf(x, 0);
@@ -289,7 +313,7 @@ public final class LineBoundariesTest {
 
     private static void givenUpAfterThreeRepeats() {
         c.says("and when it is 0: with 3 repeats it is GIVEN UP");
-        ObservedBlocks x = watched();
+        ObservedBlocks x = Checks.watched();
         x.put(1, 0, 0, 1, 1);
         x.change(0, 1, 1);
         Checks.ticks(x, 59);

@@ -197,6 +197,15 @@ public final class MessageBoundariesTest {
         Checks.bringToClient(x, 300, 65, 69, 0, 9, 99, 209, 10, 1);
         c.due("bytes of an RST", x.datagram(0, -1), 4);
         c.due("code 0 and a token is no message", refused(96, 0, 0, 1, 2, 209, 10, 1), -1);
+        for (int first : new int[] {96, 97, 112, 113}) {
+            ObservedBlocks y = Checks.watched();
+            y.change(0, 1, 1);
+            // The ID is that of what the watcher was told.
+            Checks.bringToServer(y, first, 0, 0, 1, 2, 177, 97, 192);
+            c.due("nor is it for the server: watchers", y.server(1), 1);
+            Checks.ticks(y, 4);
+            c.due("nor is it for the server: what is pending goes on", y.waiting(), 2);
+        }
         for (int token : new int[] {0, 1, 255}) {
             ObservedBlocks y = new ObservedBlocks();
             Checks.bringToServer(y, 65, 1, 0, 77, token, 177, 97, 192);
@@ -228,10 +237,14 @@ public final class MessageBoundariesTest {
             dueAnswer("a segment of " + n, n <= 12 ? 132 : 0, around(Checks.join(GET, 176 + n), new int[n], 192));
             dueAnswer("a second segment of " + n, n <= 12 ? 132 : 0, around(Checks.join(GET_A, n), new int[n], 192));
         }
+        for (int n = 13; n <= 15; n++) {
+            dueAnswer("a second segment of " + n + " that would be none", 0, Checks.join(GET_A, n, 192));
+        }
     }
 
     private static void orderOfOptions() {
-        c.says("in this order: WATCH (number 6), one for each segment of the path (number 11; a character a byte), BLOCK2 (23), BLOCK1 (27)");
+        c.says("in this order: WATCH (number 6), one for each segment of the path (number 11; a character a byte), "
+            + "BLOCK2 (23), BLOCK1 (27)");
         ObservedBlocks x = new ObservedBlocks();
         x.get(0, 3, 1, true);
         c.dueDatagram("WATCH, path, BLOCK2", x, 0, 1, 65, 1, 0, 1, 2, 96, 82, 99, 99, 1, 100, 193, 1);
@@ -274,6 +287,8 @@ public final class MessageBoundariesTest {
         c.due("27 at once", refused(97, 130, 0, 1, 2, 209, 14, 1), 130);
         c.due("14 * 16 is no step", refused(97, 130, 0, 1, 2, 225, 9, 1), -1);
         c.due("15 * 16 is no step", refused(97, 130, 0, 1, 2, 241, 8, 1), -1);
+        dueAnswer("14 * 16 behind the path", 0, Checks.join(GET_A, 224, 192));
+        dueAnswer("15 * 16 behind the path", 0, Checks.join(GET_A, 240, 192));
     }
 
     private static void numbersInFewBytes() {
@@ -354,9 +369,7 @@ public final class MessageBoundariesTest {
         c.says("with any type 0 .. 3");
         // Of the empty messages only ACK and RST mean something to the server, types 0 and 1 do not.
         for (int type = 0; type < 4; type++) {
-            ObservedBlocks x = new ObservedBlocks();
-            x.get(0, 0, 0, true);
-            Checks.deliverAll(x);
+            ObservedBlocks x = Checks.watched();
             x.change(0, 1, 1);
             x.change(0, 2, 1);
             x.deliver(0);
@@ -365,9 +378,7 @@ public final class MessageBoundariesTest {
             c.due("watchers after type " + type, x.server(1), type == 3 ? 0 : 1);
         }
         for (int first : new int[] {32, 48, 97, 113, 224, 240}) {
-            ObservedBlocks x = new ObservedBlocks();
-            x.get(0, 0, 0, true);
-            Checks.deliverAll(x);
+            ObservedBlocks x = Checks.watched();
             x.change(0, 1, 1);
             x.change(0, 2, 1);
             x.deliver(0);

@@ -49,10 +49,6 @@ public final class ServerBoundariesTest {
         c.finish("ServerBoundariesTest");
     }
 
-    private static int lastCode(ObservedBlocks x) {
-        return x.datagram(x.waiting() - 1, 1);
-    }
-
     /** The options of path a, step above the option before, and of BLOCK2. */
     private static int[] pathAndBlock2(int step, int block) {
         int[] path = {16 * step + 1, 97};
@@ -70,25 +66,12 @@ public final class ServerBoundariesTest {
         }
     }
 
-    private static void bringPut(ObservedBlocks x, int id, int block, int... bytes) {
-        int[] head = block == 0 ? Checks.row(65, 3, 0, id, 9, 177, 97, 208, 3) : Checks.row(65, 3, 0, id, 9, 177, 97, 209, 3, block);
-        Checks.bringToServer(x, bytes.length == 0 ? head : Checks.join(head, Checks.payload(bytes)));
-    }
-
     /** The watchers 40 and 41 of path a with SZX 0, in this order; nothing is under way. */
     private static ObservedBlocks twoWatchers() {
         ObservedBlocks x = new ObservedBlocks();
         bringGet(x, 101, 40, 0, 0);
         bringGet(x, 102, 41, 0, 0);
         Checks.emptyLine(x);
-        return x;
-    }
-
-    /** Slot 0 (token 2) watches path a with SZX 0; nothing is under way. */
-    private static ObservedBlocks watched() {
-        ObservedBlocks x = new ObservedBlocks();
-        x.get(0, 0, 0, true);
-        Checks.deliverAll(x);
         return x;
     }
 
@@ -125,11 +108,11 @@ public final class ServerBoundariesTest {
     private static void memoryHasTheId() {
         c.says("when the memory has its ID .. that answer is sent again");
         ObservedBlocks x = new ObservedBlocks();
-        bringPut(x, 77, 0, 1, 2, 3);
+        Checks.bringPut(x, 77, 0, 1, 2, 3);
         bringGet(x, 77, 44, 0, 0);
         c.dueDatagram("the same answer to another request", x, 1, 0, 97, 68, 0, 77, 9, 208, 14);
         c.dueServer("it was not handled", x, 1, 0, 0, 0);
-        bringPut(x, 78, 0, 1);
+        Checks.bringPut(x, 78, 0, 1);
         c.due("ID 78", x.server(0), 2);
         Checks.bringToServer(x, 65, 1, 1, 77, 44, 177, 97, 192);
         c.due("ID 256 + 77", x.server(0), 3);
@@ -143,9 +126,9 @@ public final class ServerBoundariesTest {
         for (int[] one : cases) {
             ObservedBlocks x = new ObservedBlocks();
             Checks.ticks(x, 3);
-            bringPut(x, 77, 0, 1, 2, 3);
+            Checks.bringPut(x, 77, 0, 1, 2, 3);
             Checks.ticks(x, one[0]);
-            bringPut(x, 77, 0, 1);
+            Checks.bringPut(x, 77, 0, 1);
             c.due("handled after " + one[0] + " ticks", x.server(0), one[1]);
             c.due("content after " + one[0] + " ticks", x.content(0, -1), one[1] == 1 ? 3 : 1);
             c.due("answers", x.waiting(), 2);
@@ -155,14 +138,14 @@ public final class ServerBoundariesTest {
     private static void memorySendingAgainRenewsNothing() {
         c.says("that answer is sent again. Otherwise the request is HANDLED, and the answer .. goes into the memory");
         ObservedBlocks x = new ObservedBlocks();
-        bringPut(x, 77, 0, 1);
+        Checks.bringPut(x, 77, 0, 1);
         Checks.ticks(x, 60);
-        bringPut(x, 77, 0, 1);
+        Checks.bringPut(x, 77, 0, 1);
         Checks.ticks(x, 40);
-        bringPut(x, 77, 0, 1);
+        Checks.bringPut(x, 77, 0, 1);
         c.due("100 ticks after it was handled", x.server(0), 2);
         Checks.ticks(x, 99);
-        bringPut(x, 77, 0, 1);
+        Checks.bringPut(x, 77, 0, 1);
         c.due("99 ticks after it was handled again", x.server(0), 2);
     }
 
@@ -171,54 +154,64 @@ public final class ServerBoundariesTest {
         for (int others = 0; others <= 5; others++) {
             ObservedBlocks x = new ObservedBlocks();
             for (int n = 0; n <= others; n++) {
-                bringPut(x, 77 + n, 0, 1);
+                Checks.bringPut(x, 77 + n, 0, 1);
             }
-            bringPut(x, 77, 0, 1);
+            Checks.bringPut(x, 77, 0, 1);
             c.due("the first, after " + others + " others", x.server(0), others < 4 ? others + 1 : others + 2);
         }
+        ObservedBlocks y = new ObservedBlocks();
+        for (int n = 0; n < 7; n++) {
+            Checks.bringPut(y, 70 + n, 16 * n + 16);
+        }
+        Checks.emptyLine(y);
+        for (int n = 3; n < 7; n++) {
+            Checks.bringPut(y, 70 + n, 0);
+            c.dueDatagram("each of the last four is its own", y, n - 3, 0, 97, 136, 0, 70 + n, 9, 209, 14, 16 * n + 16);
+        }
+        c.due("handled", y.server(0), 7);
     }
 
     private static void memorySameIdGoesOutFirst() {
         c.says("one with the same ID goes out of it first, and then, if there are four, the one that went in first");
         ObservedBlocks x = new ObservedBlocks();
-        bringPut(x, 70, 0, 1);
-        bringPut(x, 71, 0, 1);
-        bringPut(x, 72, 0, 1);
-        bringPut(x, 73, 0, 1);
+        Checks.bringPut(x, 70, 0, 1);
+        Checks.bringPut(x, 71, 0, 1);
+        Checks.bringPut(x, 72, 0, 1);
+        Checks.bringPut(x, 73, 0, 1);
         Checks.ticks(x, 100);
-        bringPut(x, 73, 0, 1, 2);
+        Checks.bringPut(x, 73, 0, 1, 2);
         c.due("73 is handled again", x.server(0), 5);
-        bringPut(x, 73, 0, 1);
+        Checks.bringPut(x, 73, 0, 1);
         c.due("and remembered", x.server(0), 5);
         // The old answer to 73 is out: 74, 75 and 76 drive out 70, 71 and 72, and 77 the new one to 73.
-        bringPut(x, 74, 0, 1);
-        bringPut(x, 75, 0, 1);
-        bringPut(x, 76, 0, 1);
-        bringPut(x, 73, 0, 1);
+        Checks.bringPut(x, 74, 0, 1);
+        Checks.bringPut(x, 75, 0, 1);
+        Checks.bringPut(x, 76, 0, 1);
+        Checks.bringPut(x, 73, 0, 1);
         c.due("73 is one of the last four", x.server(0), 8);
-        bringPut(x, 77, 0, 1);
-        bringPut(x, 73, 0, 1);
+        Checks.bringPut(x, 77, 0, 1);
+        Checks.bringPut(x, 73, 0, 1);
         c.due("73 was the one that went in first", x.server(0), 10);
     }
 
     private static void memoryTheOneThatWentInFirst() {
         c.says("if there are four, the one that went in first");
         ObservedBlocks x = new ObservedBlocks();
-        bringPut(x, 70, 0, 1);
+        Checks.bringPut(x, 70, 0, 1);
         x.tick();
-        bringPut(x, 71, 0, 1);
-        bringPut(x, 72, 0, 1);
-        bringPut(x, 73, 0, 1);
-        bringPut(x, 70, 0, 1);
+        Checks.bringPut(x, 71, 0, 1);
+        Checks.bringPut(x, 72, 0, 1);
+        Checks.bringPut(x, 73, 0, 1);
+        Checks.bringPut(x, 70, 0, 1);
         c.due("70 is remembered, and is not renewed by that", x.server(0), 4);
-        bringPut(x, 74, 0, 1);
+        Checks.bringPut(x, 74, 0, 1);
         for (int id = 71; id <= 74; id++) {
-            bringPut(x, id, 0, 1);
+            Checks.bringPut(x, id, 0, 1);
         }
         c.due("71 .. 74 are remembered", x.server(0), 5);
-        bringPut(x, 70, 0, 1);
+        Checks.bringPut(x, 70, 0, 1);
         c.due("70 is not", x.server(0), 6);
-        bringPut(x, 71, 0, 1);
+        Checks.bringPut(x, 71, 0, 1);
         c.due("71 went out for 70", x.server(0), 7);
     }
 
@@ -269,9 +262,9 @@ public final class ServerBoundariesTest {
         c.dueDatagram("a put with BLOCK2", x, 3, 0, 97, 130, 0, 80, 9);
         c.dueServer("no watcher, no part", x, 4, 0, 0, 0);
         Checks.bringToServer(x, 65, 1, 0, 81, 9, 177, 97, 192, 64);
-        c.due("a get with both", lastCode(x), 69);
+        c.due("a get with both", Checks.lastCode(x), 69);
         Checks.bringToServer(x, 65, 3, 0, 82, 9, 177, 97, 192, 64);
-        c.due("a put with both", lastCode(x), 68);
+        c.due("a put with both", Checks.lastCode(x), 68);
     }
 
     private static void getBehindTheContent() {
@@ -283,7 +276,7 @@ public final class ServerBoundariesTest {
             ObservedBlocks x = new ObservedBlocks();
             x.change(0, one[0], 1);
             bringGet(x, 77, 9, 0, one[1]);
-            c.due("a content of " + one[0] + ", the block " + one[1], lastCode(x), one[2]);
+            c.due("a content of " + one[0] + ", the block " + one[1], Checks.lastCode(x), one[2]);
             if (one[2] == 130) {
                 c.dueDatagram("no more than that", x, 0, 0, 97, 130, 0, 77, 9);
             }
@@ -292,7 +285,7 @@ public final class ServerBoundariesTest {
             ObservedBlocks x = new ObservedBlocks();
             x.change(0, 64, 1);
             Checks.bringToServer(x, 65, 1, 0, 77, 9, 177, 97, 194, 3, low);
-            c.due("the block " + (768 + low), lastCode(x), 130);
+            c.due("the block " + (768 + low), Checks.lastCode(x), 130);
         }
     }
 
@@ -346,7 +339,7 @@ public final class ServerBoundariesTest {
         ObservedBlocks x = new ObservedBlocks();
         x.change(0, 64, 1);
         bringGet(x, 77, 40, 0, 16);
-        c.due("NUM 1", lastCode(x), 69);
+        c.due("NUM 1", Checks.lastCode(x), 69);
         c.dueServer("no watcher", x, 1, 0, 0, 0);
         c.due("no WATCH", x.datagram(0, 5), 209);
         bringGet(x, 78, 40, 0, 8);
@@ -427,7 +420,7 @@ public final class ServerBoundariesTest {
 
     private static void watcherInThePlaceNotChanged() {
         c.says("and which is not CHANGED");
-        ObservedBlocks x = watched();
+        ObservedBlocks x = Checks.watched();
         x.change(0, 1, 1);
         x.change(0, 2, 1);
         bringGet(x, 103, 2, 0, 0);
@@ -478,11 +471,11 @@ public final class ServerBoundariesTest {
         ObservedBlocks x = twoWatchers();
         bringGet(x, 103, 42, 1, 0);
         c.due("no watcher has it", x.server(1), 2);
-        c.due("the answer", lastCode(x), 69);
+        c.due("the answer", Checks.lastCode(x), 69);
         ObservedBlocks y = new ObservedBlocks();
         bringGet(y, 103, 42, 1, 0);
         c.due("there is no watcher", y.server(1), 0);
-        c.due("the answer", lastCode(y), 69);
+        c.due("the answer", Checks.lastCode(y), 69);
     }
 
     private static void watch1OnlyWithNum0() {
@@ -505,14 +498,14 @@ public final class ServerBoundariesTest {
     private static void putNum0EmptiesThePart() {
         c.says("Code 3: with NUM 0 the part becomes empty first");
         ObservedBlocks x = new ObservedBlocks();
-        bringPut(x, 71, 8, Checks.made(0, 16, 1));
-        bringPut(x, 72, 24, Checks.made(16, 32, 1));
+        Checks.bringPut(x, 71, 8, Checks.made(0, 16, 1));
+        Checks.bringPut(x, 72, 24, Checks.made(16, 32, 1));
         c.due("part", x.server(3), 32);
-        bringPut(x, 73, 8, 1, 2, 3);
-        c.due("NUM 0 again", lastCode(x), 95);
+        Checks.bringPut(x, 73, 8, 1, 2, 3);
+        c.due("NUM 0 again", Checks.lastCode(x), 95);
         c.due("part", x.server(3), 3);
-        bringPut(x, 74, 0, 4);
-        c.due("NUM 0 and the last", lastCode(x), 68);
+        Checks.bringPut(x, 74, 0, 4);
+        c.due("NUM 0 and the last", Checks.lastCode(x), 68);
         c.due("content", x.content(0, -1), 1);
         c.due("content", x.content(0, 0), 4);
     }
@@ -522,42 +515,42 @@ public final class ServerBoundariesTest {
         int[][] cases = {{16, 95}, {24, 95}, {25, 136}, {40, 136}, {17, 136}, {32, 136}, {56, 136}};
         for (int[] one : cases) {
             ObservedBlocks x = new ObservedBlocks();
-            bringPut(x, 71, 8, Checks.made(0, 16, 1));
-            bringPut(x, 72, one[0] | 8, 7);
-            c.due("16 bytes, then the block " + (one[0] | 8), lastCode(x), one[1]);
+            Checks.bringPut(x, 71, 8, Checks.made(0, 16, 1));
+            Checks.bringPut(x, 72, one[0] | 8, 7);
+            c.due("16 bytes, then the block " + (one[0] | 8), Checks.lastCode(x), one[1]);
             c.due("part", x.server(3), one[1] == 136 ? 16 : 17);
         }
         for (int length : new int[] {15, 17}) {
             ObservedBlocks x = new ObservedBlocks();
-            bringPut(x, 71, 8, Checks.made(0, length, 1));
-            bringPut(x, 72, 16, 7);
-            c.due(length + " bytes, then block 1", lastCode(x), 136);
+            Checks.bringPut(x, 71, 8, Checks.made(0, length, 1));
+            Checks.bringPut(x, 72, 16, 7);
+            c.due(length + " bytes, then block 1", Checks.lastCode(x), 136);
             c.due("the part stays", x.server(3), length);
             c.due("the content stays", x.content(0, -1), 0);
         }
         ObservedBlocks x = new ObservedBlocks();
-        bringPut(x, 71, 9, Checks.made(0, 32, 1));
-        bringPut(x, 72, 32, 7);
-        c.due("32 bytes, then block 2 of 16", lastCode(x), 68);
+        Checks.bringPut(x, 71, 9, Checks.made(0, 32, 1));
+        Checks.bringPut(x, 72, 32, 7);
+        c.due("32 bytes, then block 2 of 16", Checks.lastCode(x), 68);
     }
 
     private static void putAtMost64() {
         c.says("When the part and the payload have more than 64 bytes");
         for (int length : new int[] {31, 32}) {
             ObservedBlocks x = new ObservedBlocks();
-            bringPut(x, 71, 9, Checks.made(0, 32, 1));
-            bringPut(x, 72, 25, Checks.made(0, length, 1));
-            c.due("32 and " + length, lastCode(x), 95);
+            Checks.bringPut(x, 71, 9, Checks.made(0, 32, 1));
+            Checks.bringPut(x, 72, 25, Checks.made(0, length, 1));
+            c.due("32 and " + length, Checks.lastCode(x), 95);
             c.due("part", x.server(3), 32 + length);
         }
         int[][] last = {{15, 68}, {16, 68}, {17, 141}, {32, 141}};
         for (int[] one : last) {
             ObservedBlocks x = new ObservedBlocks();
-            bringPut(x, 71, 8, Checks.made(0, 16, 1));
-            bringPut(x, 72, 24, Checks.made(0, 16, 1));
-            bringPut(x, 73, 40, Checks.made(0, 16, 1));
-            bringPut(x, 74, 48, Checks.made(0, one[0], 1));
-            c.due("48 and " + one[0], lastCode(x), one[1]);
+            Checks.bringPut(x, 71, 8, Checks.made(0, 16, 1));
+            Checks.bringPut(x, 72, 24, Checks.made(0, 16, 1));
+            Checks.bringPut(x, 73, 40, Checks.made(0, 16, 1));
+            Checks.bringPut(x, 74, 48, Checks.made(0, one[0], 1));
+            c.due("48 and " + one[0], Checks.lastCode(x), one[1]);
             c.due("content", x.content(0, -1), one[1] == 68 ? 48 + one[0] : 0);
             c.due("part", x.server(3), 0);
         }
@@ -566,33 +559,33 @@ public final class ServerBoundariesTest {
     private static void putBehind64EmptiesThePart() {
         c.says("more than 64 bytes: the part becomes empty; code 141");
         for (int more = 0; more <= 8; more += 8) {
-            ObservedBlocks x = watched();
-            bringPut(x, 71, 9, Checks.made(0, 32, 1));
-            bringPut(x, 72, 25, Checks.made(0, 32, 1));
+            ObservedBlocks x = Checks.watched();
+            Checks.bringPut(x, 71, 9, Checks.made(0, 32, 1));
+            Checks.bringPut(x, 72, 25, Checks.made(0, 32, 1));
             c.due("part", x.server(3), 64);
-            bringPut(x, 73, 33 + more, 7);
+            Checks.bringPut(x, 73, 33 + more, 7);
             c.dueDatagram("141", x, 2, 0, 97, 141, 0, 73, 9, 209, 14, 33 + more);
             c.dueServer("the part is empty, nobody is told", x, 4, 1, 1, 0);
             c.due("the content stays", x.content(0, -1), 0);
-            bringPut(x, 74, 33);
-            c.due("it cannot go on", lastCode(x), 136);
+            Checks.bringPut(x, 74, 33);
+            c.due("it cannot go on", Checks.lastCode(x), 136);
         }
         ObservedBlocks y = new ObservedBlocks();
-        bringPut(y, 71, 9, Checks.made(0, 32, 1));
-        bringPut(y, 72, 25, Checks.made(0, 32, 1));
-        bringPut(y, 73, 33);
-        c.due("none behind 64 is not more than 64", lastCode(y), 68);
+        Checks.bringPut(y, 71, 9, Checks.made(0, 32, 1));
+        Checks.bringPut(y, 72, 25, Checks.made(0, 32, 1));
+        Checks.bringPut(y, 73, 33);
+        c.due("none behind 64 is not more than 64", Checks.lastCode(y), 68);
         c.due("content", y.content(0, -1), 64);
     }
 
     private static void putMore() {
         c.says("Otherwise the payload goes behind the part; with MORE 1: code 95");
-        ObservedBlocks x = watched();
-        bringPut(x, 71, 8);
+        ObservedBlocks x = Checks.watched();
+        Checks.bringPut(x, 71, 8);
         c.dueDatagram("no payload", x, 0, 0, 97, 95, 0, 71, 9, 209, 14, 8);
         c.dueServer("part", x, 2, 1, 1, 0);
-        bringPut(x, 72, 8, Checks.made(0, 32, 1));
-        c.due("more than SIZE", lastCode(x), 95);
+        Checks.bringPut(x, 72, 8, Checks.made(0, 32, 1));
+        c.due("more than SIZE", Checks.lastCode(x), 95);
         c.dueServer("all of it", x, 3, 1, 1, 32);
         c.due("the content stays, and nobody is told", x.content(0, -1), 0);
     }
@@ -601,29 +594,29 @@ public final class ServerBoundariesTest {
         c.says("With MORE 0: the content becomes the part, the part becomes empty, code 68");
         ObservedBlocks x = new ObservedBlocks();
         x.change(0, 64, 1);
-        bringPut(x, 71, 0);
+        Checks.bringPut(x, 71, 0);
         c.dueDatagram("none", x, 0, 0, 97, 68, 0, 71, 9, 208, 14);
         c.due("the content is empty", x.content(0, -1), 0);
-        bringPut(x, 72, 8, Checks.made(0, 16, 1));
+        Checks.bringPut(x, 72, 8, Checks.made(0, 16, 1));
         Checks.bringToServer(x, 65, 3, 0, 73, 9, 178, 99, 99, 209, 3, 8, 255, 1, 2);
-        bringPut(x, 74, 16);
+        Checks.bringPut(x, 74, 16);
         c.due("none behind the part", x.content(0, -1), 16);
         c.due("the part of another resource stays", x.server(3), 2);
-        bringPut(x, 75, 16);
-        c.due("the part was empty", lastCode(x), 136);
+        Checks.bringPut(x, 75, 16);
+        c.due("the part was empty", Checks.lastCode(x), 136);
     }
 
     private static void putToldBeforeTheAnswer() {
         c.says("and the watchers of the resource are TOLD (before the answer is sent)");
         ObservedBlocks x = twoWatchers();
-        bringPut(x, 71, 0, 5);
+        Checks.bringPut(x, 71, 0, 5);
         c.due("two are told, and one answer", x.waiting(), 3);
         c.dueDatagram("the first", x, 0, 0, 65, 69, 0, 1, 40, 97, 3, 208, 4, 255, 5);
         c.dueDatagram("the second", x, 1, 0, 65, 69, 0, 2, 41, 97, 4, 208, 4, 255, 5);
         c.dueDatagram("the answer", x, 2, 0, 97, 68, 0, 71, 9, 208, 14);
-        bringPut(x, 72, 8, 5);
+        Checks.bringPut(x, 72, 8, 5);
         c.due("not by 95", x.waiting(), 4);
-        bringPut(x, 73, 16, 5);
+        Checks.bringPut(x, 73, 16, 5);
         c.due("not by 136", x.waiting(), 5);
         c.due("SEEN", x.server(2), 4);
     }
@@ -631,16 +624,16 @@ public final class ServerBoundariesTest {
     private static void answersWithBlock1() {
         c.says("Answers 95, 68, 136 and 141 have BLOCK1 as the request had it");
         ObservedBlocks x = new ObservedBlocks();
-        bringPut(x, 71, 9, Checks.made(0, 32, 1));
+        Checks.bringPut(x, 71, 9, Checks.made(0, 32, 1));
         c.dueDatagram("95", x, 0, 0, 97, 95, 0, 71, 9, 209, 14, 9);
-        bringPut(x, 72, 48, 1);
+        Checks.bringPut(x, 72, 48, 1);
         c.dueDatagram("136", x, 1, 0, 97, 136, 0, 72, 9, 209, 14, 48);
-        bringPut(x, 73, 25, Checks.made(0, 32, 1));
-        bringPut(x, 74, 72, 1);
+        Checks.bringPut(x, 73, 25, Checks.made(0, 32, 1));
+        Checks.bringPut(x, 74, 72, 1);
         c.dueDatagram("141 with MORE 1", x, 3, 0, 97, 141, 0, 74, 9, 209, 14, 72);
-        bringPut(x, 75, 1);
+        Checks.bringPut(x, 75, 1);
         c.dueDatagram("68", x, 4, 0, 97, 68, 0, 75, 9, 209, 14, 1);
-        bringPut(x, 76, 0);
+        Checks.bringPut(x, 76, 0);
         c.dueDatagram("68 with BLOCK1 0", x, 5, 0, 97, 68, 0, 76, 9, 208, 14);
         Checks.bringToServer(x, 65, 3, 0, 77, 9, 177, 97, 210, 3, 3, 249);
         c.dueDatagram("136 with BLOCK1 1017", x, 6, 0, 97, 136, 0, 77, 9, 210, 14, 3, 249);
@@ -666,7 +659,7 @@ public final class ServerBoundariesTest {
 
     private static void toldWhenPending() {
         c.says("when it has a pending message it is CHANGED; otherwise it is not CHANGED any more, SEEN grows by 1");
-        ObservedBlocks x = watched();
+        ObservedBlocks x = Checks.watched();
         x.change(0, 1, 1);
         c.dueServer("told", x, 1, 1, 2, 0);
         x.change(0, 2, 1);
@@ -685,7 +678,7 @@ public final class ServerBoundariesTest {
 
     private static void toldOfTheResourceAlone() {
         c.says("each watcher of the resource");
-        ObservedBlocks x = watched();
+        ObservedBlocks x = Checks.watched();
         for (int r = 1; r < 4; r++) {
             x.change(r, 1, 1);
             c.due("resource " + r, x.waiting(), 0);
@@ -716,7 +709,7 @@ public final class ServerBoundariesTest {
         c.says("whose ID is that of a pending message of a watcher: that is pending no more");
         for (int bits : new int[] {1, 2, 128}) {
             for (int place = 2; place <= 3; place++) {
-                ObservedBlocks x = watched();
+                ObservedBlocks x = Checks.watched();
                 x.change(0, 1, 1);
                 x.change(0, 2, 1);
                 x.deliver(0);
@@ -726,7 +719,7 @@ public final class ServerBoundariesTest {
                 c.due("it is still pending", x.waiting(), 1);
             }
         }
-        ObservedBlocks y = watched();
+        ObservedBlocks y = Checks.watched();
         y.change(0, 1, 1);
         y.deliver(0);
         y.deliver(0);
@@ -748,7 +741,7 @@ public final class ServerBoundariesTest {
     private static void receiptWithACode() {
         c.says("When an ACK or RST with code 0 comes");
         for (int first : new int[] {97, 113}) {
-            ObservedBlocks x = watched();
+            ObservedBlocks x = Checks.watched();
             x.change(0, 1, 1);
             x.change(0, 2, 1);
             // The ID is that of the pending message.
@@ -762,7 +755,7 @@ public final class ServerBoundariesTest {
 
     private static void rstEndsTheWatcher() {
         c.says("by an RST .. the watcher is none any more");
-        ObservedBlocks x = watched();
+        ObservedBlocks x = Checks.watched();
         x.change(0, 1, 1);
         x.change(0, 2, 1);
         x.free(0);
@@ -813,7 +806,7 @@ public final class ServerBoundariesTest {
 
     private static void ackOfOneThatIsChanged() {
         c.says("by an ACK, when it is CHANGED, it is told again");
-        ObservedBlocks x = watched();
+        ObservedBlocks x = Checks.watched();
         x.change(0, 1, 1);
         x.deliver(0);
         x.repeat(0);
@@ -833,7 +826,7 @@ public final class ServerBoundariesTest {
         int[][] rows = {{65, 69, 0, 1, 2, 177, 97, 192}, {65, 2, 0, 1, 2, 177, 97, 192}, {81, 1, 0, 1, 2, 177, 97, 192},
             {97, 1, 0, 1, 2, 177, 97, 192}, {113, 3, 0, 1, 2, 177, 97, 192}};
         for (int[] row : rows) {
-            ObservedBlocks x = watched();
+            ObservedBlocks x = Checks.watched();
             x.change(0, 1, 1);
             int[] before = Checks.picture(x);
             Checks.bringToServer(x, row);
@@ -842,7 +835,7 @@ public final class ServerBoundariesTest {
             c.due("what is pending goes on", x.waiting(), 2);
         }
         for (int first : new int[] {64, 80}) {
-            ObservedBlocks x = watched();
+            ObservedBlocks x = Checks.watched();
             x.change(0, 1, 1);
             x.deliver(0);
             x.spoil(0, 0, 96 ^ first);

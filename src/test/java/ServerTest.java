@@ -22,10 +22,6 @@ public final class ServerTest {
         c.finish("ServerTest");
     }
 
-    private static int lastCode(ObservedBlocks x) {
-        return x.datagram(x.waiting() - 1, 1);
-    }
-
     private static void gets() {
         ObservedBlocks x = new ObservedBlocks();
         Checks.bringToServer(x, 65, 1, 3, 4, 200, 177, 97, 192);
@@ -67,63 +63,58 @@ public final class ServerTest {
             } else {
                 Checks.bringToServer(x, 65, 1, 0, 5, 9, 177, 97, 193, one[1]);
             }
-            c.due("content " + one[0] + ", block " + one[1], lastCode(x), one[2]);
+            c.due("content " + one[0] + ", block " + one[1], Checks.lastCode(x), one[2]);
             if (one[2] == 130) {
                 c.dueDatagram("130 has no more", x, 0, 0, 97, 130, 0, 5, 9);
             }
         }
     }
 
-    private static void bringPut(ObservedBlocks x, int id, int block, int... bytes) {
-        int[] head = block == 0 ? Checks.row(65, 3, 0, id, 9, 177, 97, 208, 3) : Checks.row(65, 3, 0, id, 9, 177, 97, 209, 3, block);
-        Checks.bringToServer(x, bytes.length == 0 ? head : Checks.join(head, Checks.payload(bytes)));
-    }
-
     private static void puts() {
         ObservedBlocks x = new ObservedBlocks();
-        bringPut(x, 5, 8, Checks.made(0, 16, 1));
+        Checks.bringPut(x, 5, 8, Checks.made(0, 16, 1));
         c.dueDatagram("95", x, 0, 0, 97, 95, 0, 5, 9, 209, 14, 8);
         c.dueServer("part", x, 1, 0, 0, 16);
-        bringPut(x, 6, 24, Checks.made(16, 32, 1));
+        Checks.bringPut(x, 6, 24, Checks.made(16, 32, 1));
         c.dueDatagram("95", x, 1, 0, 97, 95, 0, 6, 9, 209, 14, 24);
-        bringPut(x, 7, 32, 3, 4);
+        Checks.bringPut(x, 7, 32, 3, 4);
         c.dueDatagram("68", x, 2, 0, 97, 68, 0, 7, 9, 209, 14, 32);
         c.due("content", x.content(0, -1), 34);
         c.due("content", x.content(0, 33), 4);
         c.due("content", x.content(0, 31), 156);
         c.dueServer("no part", x, 3, 0, 0, 0);
-        bringPut(x, 8, 0);
+        Checks.bringPut(x, 8, 0);
         c.dueDatagram("68 with BLOCK1 0", x, 3, 0, 97, 68, 0, 8, 9, 208, 14);
         c.due("empty", x.content(0, -1), 0);
-        bringPut(x, 9, 0, Checks.made(0, 32, 1));
-        c.due("more bytes than the size", lastCode(x), 68);
+        Checks.bringPut(x, 9, 0, Checks.made(0, 32, 1));
+        c.due("more bytes than the size", Checks.lastCode(x), 68);
         c.due("all are taken", x.content(0, -1), 32);
-        bringPut(x, 10, 9, Checks.made(0, 32, 1));
-        bringPut(x, 11, 56, Checks.made(0, 16, 1));
-        c.due("48 is not 32", lastCode(x), 136);
-        bringPut(x, 12, 32, 7);
-        c.due("2 * 16 is 32: another SZX goes on", lastCode(x), 68);
+        Checks.bringPut(x, 10, 9, Checks.made(0, 32, 1));
+        Checks.bringPut(x, 11, 56, Checks.made(0, 16, 1));
+        c.due("48 is not 32", Checks.lastCode(x), 136);
+        Checks.bringPut(x, 12, 32, 7);
+        c.due("2 * 16 is 32: another SZX goes on", Checks.lastCode(x), 68);
         c.due("content", x.content(0, -1), 33);
     }
 
     private static void putsOutOfStep() {
         ObservedBlocks x = new ObservedBlocks();
-        bringPut(x, 5, 16, 1, 2);
+        Checks.bringPut(x, 5, 16, 1, 2);
         c.dueDatagram("136", x, 0, 0, 97, 136, 0, 5, 9, 209, 14, 16);
         c.due("no part", x.server(3), 0);
-        bringPut(x, 6, 8, Checks.made(0, 16, 1));
-        bringPut(x, 7, 40, 1, 2);
-        c.due("136", lastCode(x), 136);
+        Checks.bringPut(x, 6, 8, Checks.made(0, 16, 1));
+        Checks.bringPut(x, 7, 40, 1, 2);
+        c.due("136", Checks.lastCode(x), 136);
         c.due("the part stays", x.server(3), 16);
-        bringPut(x, 8, 8, 1, 2, 3);
-        c.due("NUM 0 begins anew", lastCode(x), 95);
+        Checks.bringPut(x, 8, 8, 1, 2, 3);
+        c.due("NUM 0 begins anew", Checks.lastCode(x), 95);
         c.due("part", x.server(3), 3);
-        bringPut(x, 9, 16, 1, 2);
-        c.due("16 is not 3", lastCode(x), 136);
-        bringPut(x, 10, 0, 5);
-        c.due("NUM 0 begins anew", lastCode(x), 68);
+        Checks.bringPut(x, 9, 16, 1, 2);
+        c.due("16 is not 3", Checks.lastCode(x), 136);
+        Checks.bringPut(x, 10, 0, 5);
+        c.due("NUM 0 begins anew", Checks.lastCode(x), 68);
         c.due("content", x.content(0, -1), 1);
-        bringPut(x, 11, 8, 9, 9);
+        Checks.bringPut(x, 11, 8, 9, 9);
         Checks.bringToServer(x, 65, 3, 0, 12, 9, 178, 99, 99, 209, 3, 8, 255, 1, 2, 3, 4);
         c.due("each resource has its part", x.server(3), 6);
         x.change(0, 3, 3);
@@ -148,23 +139,23 @@ public final class ServerTest {
 
     private static void partsTooLong() {
         ObservedBlocks x = new ObservedBlocks();
-        bringPut(x, 5, 9, Checks.made(0, 32, 1));
-        bringPut(x, 6, 25, Checks.made(32, 64, 1));
-        c.due("64 are fine", lastCode(x), 95);
+        Checks.bringPut(x, 5, 9, Checks.made(0, 32, 1));
+        Checks.bringPut(x, 6, 25, Checks.made(32, 64, 1));
+        c.due("64 are fine", Checks.lastCode(x), 95);
         c.due("part", x.server(3), 64);
-        bringPut(x, 7, 41, 1);
+        Checks.bringPut(x, 7, 41, 1);
         c.dueDatagram("65 are not", x, 2, 0, 97, 141, 0, 7, 9, 209, 14, 41);
         c.due("the part is empty", x.server(3), 0);
         c.due("the content is as it was", x.content(0, -1), 0);
-        bringPut(x, 8, 9, Checks.made(0, 32, 1));
-        bringPut(x, 9, 25, Checks.made(32, 64, 1));
-        bringPut(x, 10, 41);
-        c.due("none behind 64 is fine", lastCode(x), 95);
-        bringPut(x, 11, 65);
-        c.due("128 is not 64", lastCode(x), 136);
+        Checks.bringPut(x, 8, 9, Checks.made(0, 32, 1));
+        Checks.bringPut(x, 9, 25, Checks.made(32, 64, 1));
+        Checks.bringPut(x, 10, 41);
+        c.due("none behind 64 is fine", Checks.lastCode(x), 95);
+        Checks.bringPut(x, 11, 65);
+        c.due("128 is not 64", Checks.lastCode(x), 136);
         c.due("part", x.server(3), 64);
-        bringPut(x, 12, 64);
-        c.due("4 * 16 is 64", lastCode(x), 68);
+        Checks.bringPut(x, 12, 64);
+        c.due("4 * 16 is 64", Checks.lastCode(x), 68);
         c.due("content", x.content(0, -1), 64);
     }
 
@@ -190,14 +181,14 @@ public final class ServerTest {
         y.change(0, 17, 1);
         Checks.bringToServer(y, 65, 1, 0, 6, 41, 96, 81, 97, 193, 16);
         c.dueServer("not with NUM 1", y, 1, 0, 0, 0);
-        c.due("but 69", lastCode(y), 69);
+        c.due("but 69", Checks.lastCode(y), 69);
         bringWatch(y, 7, 41, 2, 0);
         c.dueServer("not with WATCH 2", y, 2, 0, 0, 0);
         Checks.bringToServer(y, 65, 1, 0, 8, 41, 96, 81, 120, 193, 1);
         c.dueServer("not under x", y, 3, 0, 0, 0);
         Checks.bringToServer(y, 65, 3, 0, 9, 41, 96, 81, 97, 192, 64);
         c.dueServer("not by a put", y, 4, 0, 0, 0);
-        c.due("it is put", lastCode(y), 68);
+        c.due("it is put", Checks.lastCode(y), 68);
     }
 
     private static void watchersAgain() {
@@ -379,67 +370,67 @@ public final class ServerTest {
 
     private static void memoryAnswers() {
         ObservedBlocks x = new ObservedBlocks();
-        bringPut(x, 5, 0, 1, 2, 3);
+        Checks.bringPut(x, 5, 0, 1, 2, 3);
         x.change(0, 9, 9);
         x.spoil(0, 4, 255);
-        bringPut(x, 5, 0, 4);
+        Checks.bringPut(x, 5, 0, 4);
         c.dueDatagram("the same answer, whole", x, 1, 0, 97, 68, 0, 5, 9, 208, 14);
         c.due("it was not handled again", x.server(0), 1);
         c.due("it changed nothing", x.content(0, -1), 9);
         Checks.bringToServer(x, 65, 1, 0, 5, 77, 177, 120, 192);
         c.dueDatagram("whatever request has the ID", x, 2, 0, 97, 68, 0, 5, 9, 208, 14);
         Checks.bringToServer(x, 65, 1, 1, 5, 77, 177, 120, 192);
-        c.due("another ID", lastCode(x), 132);
+        c.due("another ID", Checks.lastCode(x), 132);
         c.due("handled", x.server(0), 2);
     }
 
     private static void memoryForgetsByTime() {
         ObservedBlocks x = new ObservedBlocks();
-        bringPut(x, 5, 0, 1);
+        Checks.bringPut(x, 5, 0, 1);
         Checks.ticks(x, 99);
-        bringPut(x, 5, 0, 1);
+        Checks.bringPut(x, 5, 0, 1);
         c.due("99 ticks ago", x.server(0), 1);
         x.tick();
-        bringPut(x, 5, 0, 1, 2);
+        Checks.bringPut(x, 5, 0, 1, 2);
         c.due("100 ticks ago, and sending it again does not renew it", x.server(0), 2);
         c.due("handled", x.content(0, -1), 2);
         Checks.ticks(x, 99);
-        bringPut(x, 5, 0, 1);
+        Checks.bringPut(x, 5, 0, 1);
         c.due("99 ticks ago", x.server(0), 2);
         x.tick();
-        bringPut(x, 5, 0, 1);
+        Checks.bringPut(x, 5, 0, 1);
         c.due("100 ticks ago", x.server(0), 3);
     }
 
     private static void memoryForgetsTheFirst() {
         ObservedBlocks x = new ObservedBlocks();
         for (int id = 5; id <= 8; id++) {
-            bringPut(x, id, 0, 1);
+            Checks.bringPut(x, id, 0, 1);
         }
-        bringPut(x, 5, 0, 1);
+        Checks.bringPut(x, 5, 0, 1);
         c.due("four are remembered", x.server(0), 4);
-        bringPut(x, 9, 0, 1);
+        Checks.bringPut(x, 9, 0, 1);
         for (int id = 6; id <= 9; id++) {
-            bringPut(x, id, 0, 1);
+            Checks.bringPut(x, id, 0, 1);
         }
         c.due("the last four, though the first was asked for since", x.server(0), 5);
-        bringPut(x, 5, 0, 1);
+        Checks.bringPut(x, 5, 0, 1);
         c.due("the first is not", x.server(0), 6);
-        bringPut(x, 7, 0, 1);
+        Checks.bringPut(x, 7, 0, 1);
         c.due("the third is", x.server(0), 6);
-        bringPut(x, 6, 0, 1);
+        Checks.bringPut(x, 6, 0, 1);
         c.due("the second is not any more", x.server(0), 7);
 
         ObservedBlocks y = new ObservedBlocks();
         int[] blocks = {9, 25, 8, 1, 136, 32, 48};
         for (int i = 0; i < blocks.length; i++) {
-            bringPut(y, 5 + i, blocks[i]);
+            Checks.bringPut(y, 5 + i, blocks[i]);
         }
         while (y.waiting() > 0) {
             y.lose(0);
         }
         for (int i = 3; i < blocks.length; i++) {
-            bringPut(y, 5 + i, 0);
+            Checks.bringPut(y, 5 + i, 0);
             int code = i == 3 ? 68 : 136;
             c.dueDatagram("each with its own answer", y, i - 3, 0, 97, code, 0, 5 + i, 9, 209, 14, blocks[i]);
         }
@@ -448,24 +439,24 @@ public final class ServerTest {
 
     private static void memoryAfterTheSameId() {
         ObservedBlocks x = new ObservedBlocks();
-        bringPut(x, 5, 0, 1);
+        Checks.bringPut(x, 5, 0, 1);
         Checks.ticks(x, 100);
-        bringPut(x, 6, 0, 1);
-        bringPut(x, 7, 0, 1);
-        bringPut(x, 8, 0, 1);
-        bringPut(x, 5, 0, 1);
+        Checks.bringPut(x, 6, 0, 1);
+        Checks.bringPut(x, 7, 0, 1);
+        Checks.bringPut(x, 8, 0, 1);
+        Checks.bringPut(x, 5, 0, 1);
         c.due("handled anew", x.server(0), 5);
         while (x.waiting() > 0) {
             x.lose(0);
         }
         for (int id = 5; id <= 8; id++) {
-            bringPut(x, id, 0, 1);
+            Checks.bringPut(x, id, 0, 1);
         }
         c.due("the old one alone went out", x.server(0), 5);
-        bringPut(x, 9, 0, 1);
-        bringPut(x, 6, 0, 1);
+        Checks.bringPut(x, 9, 0, 1);
+        Checks.bringPut(x, 6, 0, 1);
         c.due("now 6 was the one that went in first", x.server(0), 7);
-        bringPut(x, 5, 0, 1);
+        Checks.bringPut(x, 5, 0, 1);
         c.due("5 is remembered", x.server(0), 7);
     }
 }
