@@ -63,19 +63,23 @@ public final class CallBoundariesTest {
         return x;
     }
 
-    /** Whatever is to be seen later of what is pending, of IDs, of uses and of the memory. */
-    private static int[] later(ObservedBlocks x) {
+    /** Brings about what shows IDs, uses, the memory and what is pending. */
+    private static ObservedBlocks later(ObservedBlocks x) {
         Checks.ticks(x, 9);
         x.get(1, 0, 0, true);
         Checks.deliverAll(x);
         x.change(0, 3, 3);
         x.change(2, 3, 3);
-        int[] seen = Checks.picture(x);
-        Checks.ticks(x, 70);
-        return Checks.join(seen, Checks.picture(x));
+        return x;
     }
 
-    private static void refuseAll(ObservedBlocks x, boolean slot0IsFree, boolean slot1IsFree) {
+    private static ObservedBlocks muchLater(ObservedBlocks x) {
+        later(x);
+        Checks.ticks(x, 30);
+        return x;
+    }
+
+    private static ObservedBlocks refuseAll(ObservedBlocks x, boolean slot0IsFree, boolean slot1IsFree) {
         for (int s : NO_SLOTS) {
             c.due("get", x.get(s, 0, 0, true), BAD);
             c.due("put", x.put(s, 0, 0, 1, 1), BAD);
@@ -110,26 +114,25 @@ public final class CallBoundariesTest {
         c.due("change with a wrong length", x.change(0, 65, 1), BAD);
         c.due("content", x.content(4, -1), BAD);
         c.due("server", x.server(4), BAD);
+        return x;
     }
 
     private static void refusedCallsChangeNothing() {
         c.says("A call that is refused changes nothing");
-        ObservedBlocks x = busy();
-        ObservedBlocks twin = busy();
-        int[] before = Checks.picture(x);
-        c.dueRow("the twin", Checks.picture(twin), before);
-        refuseAll(x, false, true);
-        c.dueRow("all that can be seen", Checks.picture(x), before);
-        c.dueRow("all that can be seen later", later(x), later(twin));
+        c.dueRow("all that can be seen",
+            Checks.picture(() -> refuseAll(busy(), false, true)), Checks.picture(CallBoundariesTest::busy));
+        c.dueRow("all that can be seen later",
+            Checks.picture(() -> later(refuseAll(busy(), false, true))), Checks.picture(() -> later(busy())));
+        c.dueRow("all that can be seen much later",
+            Checks.picture(() -> muchLater(refuseAll(busy(), false, true))), Checks.picture(() -> muchLater(busy())));
     }
 
     private static void refusedCallsOfANewObject() {
         c.says("A call that is refused changes nothing");
-        ObservedBlocks x = new ObservedBlocks();
-        int[] before = Checks.picture(x);
-        refuseAll(x, true, true);
-        c.dueRow("all that can be seen", Checks.picture(x), before);
-        c.dueRow("all that can be seen later", later(x), later(new ObservedBlocks()));
+        c.dueRow("all that can be seen",
+            Checks.picture(() -> refuseAll(new ObservedBlocks(), true, true)), Checks.picture(ObservedBlocks::new));
+        c.dueRow("all that can be seen later",
+            Checks.picture(() -> later(refuseAll(new ObservedBlocks(), true, true))), Checks.picture(() -> later(new ObservedBlocks())));
     }
 
     private static void promise1() {

@@ -1,4 +1,5 @@
 import java.util.Arrays;
+import java.util.function.Supplier;
 
 /** What the tests share: comparing answers, and making datagrams with any bytes by spoiling others. */
 final class Checks {
@@ -160,32 +161,35 @@ final class Checks {
         x.deliver(x.waiting() - 1);
     }
 
-    /** All that can be seen of an object. */
-    static int[] picture(ObservedBlocks x) {
-        int[] all = new int[2000];
-        int n = 0;
+    /** All that can be seen of an object. It is made anew for each part, for one object has 512 calls and no more. */
+    static int[] picture(Supplier<ObservedBlocks> made) {
+        int[] all = {};
+        ObservedBlocks x = made.get();
         for (int what = 0; what < 4; what++) {
-            all[n++] = x.server(what);
+            all = join(all, x.server(what));
         }
         for (int s = 0; s < 2; s++) {
             for (int what = 0; what < 7; what++) {
-                all[n++] = x.slot(s, what);
+                all = join(all, x.slot(s, what));
             }
+            ObservedBlocks y = made.get();
             for (int i = 0; i <= 80; i++) {
-                all[n++] = x.body(s, i);
+                all = join(all, y.body(s, i));
             }
         }
         for (int r = 0; r < 4; r++) {
+            ObservedBlocks y = made.get();
             for (int i = -1; i <= 64; i++) {
-                all[n++] = x.content(r, i);
+                all = join(all, y.content(r, i));
             }
         }
         for (int k = 0; k < x.waiting(); k++) {
+            ObservedBlocks y = made.get();
             for (int i = -2; i <= 46; i++) {
-                all[n++] = x.datagram(k, i);
+                all = join(all, y.datagram(k, i));
             }
         }
-        return Arrays.copyOf(all, n);
+        return all;
     }
 
     /** The line gets 16 datagrams, the first one again and again; it must have one. */

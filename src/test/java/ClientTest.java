@@ -188,6 +188,14 @@ public final class ClientTest {
         return x;
     }
 
+    /** Slot 0 watches with LAST 8 and a body of two bytes; nothing is under way. */
+    private static ObservedBlocks newsTaken() {
+        ObservedBlocks x = watchingFrom(7);
+        bring(x, 65, 69, 1, 2, 2, 97, 8, 209, 4, 1, 255, 6, 7);
+        x.lose(0);
+        return x;
+    }
+
     private static void news() {
         ObservedBlocks x = watchingFrom(7);
         bring(x, 65, 69, 1, 2, 2, 97, 8, 209, 4, 1, 255, 6, 7);
@@ -199,11 +207,12 @@ public final class ClientTest {
             {65, 69, 1, 2, 2, 209, 10, 1, 255, 9}, {65, 69, 1, 2, 2, 97, 9, 209, 8, 1, 255, 9}, {65, 69, 1, 2, 2, 97, 9, 209, 4, 8, 255, 9},
             {65, 69, 1, 2, 2, 97, 9, 209, 4, 17, 255, 9}, {65, 69, 1, 2, 2, 97, 8, 209, 4, 1, 255, 9}, {65, 69, 1, 2, 2, 97, 7, 209, 4, 1, 255, 9}};
         for (int[] row : rows) {
+            x = newsTaken();
             bring(x, row);
             c.dueSlot("no news: no WATCH, no BLOCK2, another SZX, another NUM, the same number, one before", x, 0, 2, 2, 0, 2, 1, 8, 0);
             c.dueDatagram("but an ACK", x, 0, 1, 96, 0, 1, 2);
-            x.lose(0);
         }
+        x = newsTaken();
         bring(x, 65, 69, 1, 2, 4, 97, 9, 209, 4, 1, 255, 9);
         c.dueSlot("another token", x, 0, 2, 2, 0, 2, 1, 8, 0);
         c.dueDatagram("RST", x, 0, 1, 112, 0, 1, 2);
@@ -211,6 +220,7 @@ public final class ClientTest {
         int[][] ignored = {{65, 68, 1, 2, 2, 97, 9, 209, 4, 1, 255, 9}, {81, 69, 1, 2, 2, 97, 9, 209, 4, 1, 255, 9},
             {113, 69, 1, 2, 2, 97, 9, 209, 4, 1, 255, 9}, {97, 69, 1, 2, 2, 97, 9, 209, 4, 1, 255, 9}, {65, 1, 1, 2, 2, 97, 9, 209, 4, 1, 255, 9}};
         for (int[] row : ignored) {
+            x = newsTaken();
             bring(x, row);
             c.dueSlot("all others are ignored", x, 0, 2, 2, 0, 2, 1, 8, 0);
             c.due("nothing is sent", x.waiting(), 0);

@@ -152,14 +152,21 @@ public final class LineBoundariesTest {
 
     private static void repeatToAFullLine() {
         c.says("one that is sent when there are 16 is lost");
+        int[] after = Checks.picture(() -> {
+            ObservedBlocks x = fullLine();
+            c.due("repeat(1)", x.repeat(1), 16);
+            c.due("repeat(15)", x.repeat(15), 16);
+            return x;
+        });
+        c.dueRow("all that can be seen", after, Checks.picture(LineBoundariesTest::fullLine));
+    }
+
+    private static ObservedBlocks fullLine() {
         ObservedBlocks x = new ObservedBlocks();
         x.get(0, 0, 0, false);
         x.get(1, 2, 0, false);
         Checks.fillLine(x);
-        int[] before = Checks.picture(x);
-        c.due("repeat(1)", x.repeat(1), 16);
-        c.due("repeat(15)", x.repeat(15), 16);
-        c.dueRow("all", Checks.picture(x), before);
+        return x;
     }
 
     private static void timeAtFirst() {

@@ -181,14 +181,6 @@ public final class MessageBoundariesTest {
             Checks.bringToServer(x, 65, 1, id[0], id[1], 9, 177, 97, 192);
             c.dueDatagram("answer", x, 0, 0, 97, 69, id[0], id[1], 9, 208, 10);
         }
-        ObservedBlocks x = new ObservedBlocks();
-        for (int n = 1; n <= 256; n++) {
-            x.get(0, 0, 0, false);
-            c.due("higher byte of ID " + n, x.datagram(0, 2), n / 256);
-            c.due("lower byte of ID " + n, x.datagram(0, 3), n % 256);
-            x.lose(0);
-            x.free(0);
-        }
     }
 
     private static void codeZeroHasNoToken() {

@@ -165,22 +165,20 @@ public final class MessagesTest {
     }
 
     private static void atTheClient() {
-        // Each row but the last differs from a good answer to slot 0, ID 1, token 2.
+        // Each row differs from a good answer to slot 0, ID 1, token 2.
         int[][] rows = {{81, 69, 0, 1, 2, 209, 10, 1}, {96, 69, 0, 1, 2, 209, 10, 1}, {113, 69, 0, 1, 2, 209, 10, 1},
             {97, 69, 0, 1, 2, 209, 10, 2}, {97, 69, 0, 1, 2, 210, 10, 1}, {97, 69, 0, 1, 2, 209, 9, 1},
             {97, 0, 0, 1, 2, 209, 10, 1}, {225, 69, 0, 1, 2, 209, 10, 1}, {97, 69, 0, 1, 2, 208, 10, 255},
             {97, 69, 0, 1, 4, 209, 10, 1}, {97, 69, 0, 2, 2, 209, 10, 1}, {97, 69, 1, 1, 2, 209, 10, 1}};
-        ObservedBlocks x = new ObservedBlocks();
-        x.get(0, 0, 1, false);
-        int id = 300;
         for (int[] row : rows) {
-            Checks.bringToClient(x, id, row);
-            id++;
+            ObservedBlocks x = new ObservedBlocks();
+            x.get(0, 0, 1, false);
+            Checks.bringToClient(x, 300, row);
             c.dueSlot("it goes on asking", x, 0, 1, 2, 0, 0, 0, 0, 0);
             c.due("nothing is sent", x.waiting(), 1);
+            Checks.bringToClient(x, 301, 97, 69, 0, 1, 2, 209, 10, 1);
+            c.dueSlot("the good answer", x, 0, 2, 2, 0, 0, 0, 0, 0);
         }
-        Checks.bringToClient(x, id, 97, 69, 0, 1, 2, 209, 10, 1);
-        c.dueSlot("the good answer", x, 0, 2, 2, 0, 0, 0, 0, 0);
     }
 
     private static void emptyMessages() {

@@ -821,16 +821,26 @@ public final class ServerBoundariesTest {
         c.due("which is pending with 4 ticks", x.waiting(), 2);
     }
 
+    /** A watcher of path a with a pending message, which is under way. */
+    private static ObservedBlocks told() {
+        ObservedBlocks x = Checks.watched();
+        x.change(0, 1, 1);
+        return x;
+    }
+
     private static void othersAreIgnored() {
         c.says("All other messages are ignored");
         int[][] rows = {{65, 69, 0, 1, 2, 177, 97, 192}, {65, 2, 0, 1, 2, 177, 97, 192}, {81, 1, 0, 1, 2, 177, 97, 192},
             {97, 1, 0, 1, 2, 177, 97, 192}, {113, 3, 0, 1, 2, 177, 97, 192}};
         for (int[] row : rows) {
-            ObservedBlocks x = Checks.watched();
-            x.change(0, 1, 1);
-            int[] before = Checks.picture(x);
+            int[] after = Checks.picture(() -> {
+                ObservedBlocks x = told();
+                Checks.bringToServer(x, row);
+                return x;
+            });
+            c.dueRow("all that can be seen", after, Checks.picture(ServerBoundariesTest::told));
+            ObservedBlocks x = told();
             Checks.bringToServer(x, row);
-            c.dueRow("all", Checks.picture(x), before);
             Checks.ticks(x, 4);
             c.due("what is pending goes on", x.waiting(), 2);
         }
